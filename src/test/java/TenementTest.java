@@ -12,6 +12,7 @@ public final class TenementTest {
         readTakesTheTenement();
         readFindsTheFirstFault();
         readLooksAtTheTenementAsItGoes();
+        readEndsWithTheText();
         readKeepsAllAtAFault();
         due.end();
     }
@@ -174,7 +175,11 @@ public final class TenementTest {
         fault("-", 0);
         fault("tenement;\n", 9);
         fault("tenement;flights 0 1;", 9);
+        fault("xenement;", 0);
+        fault("tenement;hoursz 5;", 9);
         fault("tenement;flight ;", 16);
+        fault("tenement;flight 1 a;", 18);
+        fault("tenement;flight 5 1;goer 5 1 0;", -13);
         fault("tenement;flight 6 1;", 16);
         fault("tenement;flight 0 0;", 18);
         fault("tenement;flight 0 11;", 18);
@@ -218,6 +223,15 @@ public final class TenementTest {
         String porter = "tenement;flight 0 4;goer 2 4 0;load 0 9;";
         fault(porter + "stride 0 2;", porter.length() + 9);
         fault(porter + "stride 0 1;", -15);
+    }
+
+    private static void readEndsWithTheText() {
+        StairSteps x = new StairSteps();
+        due.is("7 a longer one", Due.read(x, "tenement;hours 55;hours 1;"), 3);
+        due.is("7 its bytes are gone", Due.read(x, "tenement;hours 5"), -26);
+        due.is("7 its letters, too", Due.read(x, "tenement;hour"), -19);
+        due.is("7 its items, too", Due.read(x, "tenement;"), 1);
+        due.is("7 the hour", x.count(3), 0);
     }
 
     private static void readKeepsAllAtAFault() {

@@ -70,8 +70,17 @@ public final class WhatThereIsTest {
         due.is("36 again", x.from(0), 1);
         due.is("36 all is back again", x.digest(), before);
         x.hours(1);
+        x.forget(0);
+        x.seen(0, 7, 7, 0);
+        x.forget(1);
+        x.note(0, 7, 7);
+        x.forget(2);
+        x.mark(0, 2, 2, 2, 2);
+        for (int n = 0; n < 9; n++) x.hours(7);
         due.is("36 apart from the image", x.from(0), 1);
         due.is("36 all is back, too", x.digest(), before);
+        for (int n = 0; n < 5; n++) x.undo();
+        due.is("36 what may be undone is back, too", x.undo(), 0);
     }
 
     private static void imagesKeepNoTextFractionStatus() {

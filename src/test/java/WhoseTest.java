@@ -53,6 +53,8 @@ public final class WhoseTest {
         due.is("22 then one", x.whose(1), 2046 - 8);
         x.seen(1, 3, 4, 1);
         due.is("22 no step", x.whose(1), 0);
+        x.forget(0);
+        due.is("22 all ten again", x.whose(0) & x.whose(1), 2046);
     }
 
     private static void tellHalvesThem() {
@@ -235,7 +237,9 @@ public final class WhoseTest {
         high.hours(4);
         chance(high, 6, 1, 1, 1);
         StairSteps stuck = Due.with(0, 4, 0, 1);
-        stuck.dark(0, 6, 0);
+        stuck.goer(0, 3, 0);
+        stuck.dark(1, 1, 3);
+        due.is("32 another's chance", stuck.part(0), 1);
         chance(stuck, 0, 0, 0, 1);
         StairSteps over = Due.with(0, 4, 0, 4);
         over.strides(0, 3);
@@ -273,5 +277,23 @@ public final class WhoseTest {
         due.is("33 sixty", x.years(0, 60), 15);
         due.is("33 sixty by seven", x.years(7, 60), 13);
         due.is("33 nothing is changed", x.digest(), before);
+        yearsCountFromHere();
+    }
+
+    private static void yearsCountFromHere() {
+        StairSteps x = Due.with(5, 1, 0, 1);
+        x.hours(5);
+        int one = x.years(3, 60);
+        due.holds("33 one falls", one > 0);
+        x.strides(0, 1);
+        due.is("33 a fall of before", x.count(4), 1);
+        due.is("33 does not count", x.years(3, 60), one);
+        // X is 12345, then 1406932606: goer 0 strides twice, the second time an hour on, to step 2.
+        StairSteps night = Due.with(5, 2, 0, 1);
+        Due.atHour(night, 3);
+        due.is("33 at 4 nobody sits", night.years(0, 2), 0);
+        Due.atHour(night, 1);
+        due.is("33 at 5 he does", night.years(0, 2), 1);
+        due.is("33 the first stride alone", night.years(0, 1), 0);
     }
 }
