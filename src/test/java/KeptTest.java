@@ -14,6 +14,7 @@ public final class KeptTest {
         statusStays();
         theFractionStays();
         ofTellsSix();
+        eachHasItsOwn();
         aboutTellsThree();
         countTellsTen();
         digestOfTheEmpty();
@@ -269,6 +270,27 @@ public final class KeptTest {
         for (int what = 0; what <= 5; what++) due.is("14 of 5, " + what, x.of(5, what), last[what]);
         int[] first = {5, 4, 0, 0, 0, 1};
         for (int what = 0; what <= 5; what++) due.is("14 of 0, " + what, x.of(0, what), first[what]);
+    }
+
+    /** Steps and loads of all goers, and steps of all owners, are set one behind the other, and none sets another. */
+    private static void eachHasItsOwn() {
+        StairSteps x = new StairSteps();
+        for (int f = 0; f < 3; f++) x.flight(5, 8 + f);
+        for (int i = 0; i < 6; i++) x.goer(0, 4, i % 3);
+        for (int i = 0; i < 6; i++) {
+            x.loads(i, 9 - i);
+            if (i > 0) x.strides(i, Math.min(4, i));
+            if (i > 4) x.strides(i, 1);
+        }
+        for (int f = 0; f < 3; f++) x.sells(f, 1 + f);
+        x.hours(3);
+        for (int i = 0; i < 6; i++) {
+            due.is("14 step of " + i, x.of(i, 3), i);
+            due.is("14 load of " + i, x.of(i, 4), 9 - i);
+        }
+        for (int f = 0; f < 3; f++) due.is("15 step " + f, x.about(f, 1), 1 + f);
+        due.is("38 the hour", x.count(3), 3);
+        due.is("38 falls", x.count(4), 0);
     }
 
     private static void aboutTellsThree() {

@@ -24,6 +24,8 @@ public final class KnownEdgesTest {
         darkByAllOutcomes();
         yearsOfNone();
         yearsBeginWithTheSeed();
+        yearsAreCut();
+        yearsOfThoseWhoAreThere();
         yearsByStrides();
         yearsAtTheLastHour();
         due.end();
@@ -113,6 +115,18 @@ public final class KnownEdgesTest {
         nobody.seen(0, 10, 4, 0);
         due.is("23 nobody, none barred", nobody.tell(0), 105);
         due.bad("23 no flight", Houses::empty, y -> y.tell(0));
+        tellOfTheLastStep();
+    }
+
+    /** Of steps 1, 5, 8, 10 only 10 at 9, when a lady bars three, leaves two and two. */
+    private static void tellOfTheLastStep() {
+        StairSteps x = owned(3);
+        x.seen(0, 4, 9, 0);
+        x.seen(0, 6, 0, 0);
+        x.seen(0, 7, 0, 0);
+        x.seen(0, 9, 0, 0);
+        due.is("22 four of them", x.whose(0), 1 << 1 | 1 << 5 | 1 << 8 | 1 << 10);
+        due.is("23 the last step", x.tell(0), 1009);
     }
 
     private static StairSteps seenBoth() {
@@ -341,7 +355,14 @@ public final class KnownEdgesTest {
         int[] hours = {0, 9, 18};
         for (int kind = 0; kind < 6; kind++) {
             for (int t : hours) {
-                for (int step = 1; step <= 10; step++) outcomes(Due.atHour(Due.with(kind, step, 4, 1 + step % 4), t), step % 7);
+                for (int step = 1; step <= 10; step++) {
+                    StairSteps x = Due.atHour(Due.with(kind, step, 4, 1 + step % 4), t);
+                    outcomes(x, step % 7);
+                    x.strides(0, step % 2 + 1);
+                    outcomes(x, 3);
+                    x.strides(0, 1);
+                    outcomes(x, 6);
+                }
             }
         }
     }
@@ -349,20 +370,21 @@ public final class KnownEdgesTest {
     private static void outcomes(StairSteps x, int n) {
         int many = Math.min(n, x.up(0, StairSteps.NONE)), bars = x.about(0, 2);
         if (many < 0) return;
+        int from = x.of(0, 3);
         int[] row = new int[many];
         for (int k = 0; k < many; k++) row[k] = x.up(0, k);
         for (int c = 0; c <= 10; c += 3) {
             long ways = 0, all = 1;
             for (int k = 0; k < many; k++) all *= 10;
-            for (int higher = 0; higher < 1 << many; higher++) ways += ways(row, higher, c, bars);
+            for (int higher = 0; higher < 1 << many; higher++) ways += ways(from, row, higher, c, bars);
             x.dark(0, n, c);
             due.is("32 n " + n + " c " + c, x.part(0) * all, ways * x.part(1));
         }
     }
 
-    private static long ways(int[] row, int higher, int c, int bars) {
+    private static long ways(int from, int[] row, int higher, int c, int bars) {
         long ways = 1;
-        int p = 0;
+        int p = from;
         for (int k = 0; k < row.length; k++) {
             int more = higher >> k & 1;
             p = Math.min(11, p + row[k] + more);
@@ -393,13 +415,47 @@ public final class KnownEdgesTest {
         }
     }
 
-    /** One year, of a goer who falls by 3 alone. */
     private static void yearsBeginWithTheSeed() {
         due.says("X is SEED at first; n times X becomes X times 1103515245 and 12345, by 2147483648 what is left over");
-        for (int seed = 0; seed < 300; seed++) {
+        for (int seed = 0; seed < 300; seed++) oneYear(seed);
+        for (int seed = 999700; seed <= 999999; seed++) oneYear(seed);
+    }
+
+    /** X is a multiple of 65536 or of 1048576, or is near one. */
+    private static void yearsAreCut() {
+        due.says("GOER X by 65536 (cut), by 6 left over");
+        for (int seed = 0; seed <= 999999; seed++) {
             long number = (seed * 1103515245L + 12345L) % 2147483648L;
-            boolean first = number / 65536 % 6 == 0, barred = number / 1048576 % 4 + 1 == 3;
-            due.is("33 one year by " + seed, Due.with(0, 3, 0, 4).years(seed, 1), first && barred ? 1 : 0);
+            long left = number % 1048576, near = number % 65536;
+            if (left < 2048 || left > 1048576 - 2048 || near < 64 || near > 65536 - 64) oneYear(seed);
+        }
+    }
+
+    /** One year, of a goer of legs 4 who falls by 3 alone. */
+    private static void oneYear(int seed) {
+        long number = (seed * 1103515245L + 12345L) % 2147483648L;
+        boolean first = number / 65536 % 6 == 0, barred = number / 1048576 % 4 + 1 == 3;
+        StairSteps x = Due.with(0, 3, 0, 4);
+        due.is("33 one year by " + seed, x.years(seed, 1), first && barred ? 1 : 0);
+        for (int i = 1; i < 6; i++) x.goer(0, 4, 0);
+        due.is("33 one year of six by " + seed, x.years(seed, 1), barred ? 1 : 0);
+    }
+
+    /** Six goers were there before; only the ones who are there now stride. */
+    private static void yearsOfThoseWhoAreThere() {
+        due.says("if there and not OVER");
+        for (int seed = 0; seed < 30; seed++) {
+            StairSteps x = Houses.full();
+            x.tenement();
+            x.flight(3, 1);
+            x.goer(0, 2, 0);
+            x.hours(9);
+            StairSteps as = Due.atHour(Due.with(3, 1, 0, 2), 9);
+            due.is("33 of one who is there, by " + seed, x.years(seed, 60), as.years(seed, 60));
+            due.is("33 by calls, by " + seed, as.years(seed, 60), gone(Due.atHour(Due.with(3, 1, 0, 2), 9), seed, 60));
+            x.tenement();
+            x.flight(3, 1);
+            due.is("33 of nobody who is there, by " + seed, x.years(seed, 60), 0);
         }
     }
 

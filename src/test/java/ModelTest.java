@@ -2,7 +2,7 @@ import java.util.Random;
 
 /** Long runs of calls on an object and on the model, side by side; the seeds are fixed, so every run is the same. */
 public final class ModelTest {
-    private static final int RUNS = 3000, CALLS = 512;
+    private static final int RUNS = 6000, CALLS = 512, MOST_TEXT = 200;
     private static final String[] WORDS = {"flight", "goer", "load", "stride", "hours"};
     private static final Due due = new Due("ModelTest");
 
@@ -23,12 +23,12 @@ public final class ModelTest {
     }
 
     private void play() {
-        while (calls < CALLS - 2) {
-            if (random.nextInt(60) == 0) text();
-            else if (calls < 12 || random.nextInt(40) == 0) same(random.nextInt(3), this::settle);
+        while (calls + 2 <= CALLS) {
+            if (random.nextInt(40) == 0) text();
+            else if (calls < 24 || random.nextInt(40) == 0) same(random.nextInt(3), this::settle);
             else same(random.nextInt(34), this::call);
-            calls++;
             due.is("run " + run + " digest behind call " + calls, x.digest(), m.digest());
+            calls++;
         }
     }
 
@@ -38,6 +38,7 @@ public final class ModelTest {
 
     private void same(int which, Pair pair) {
         long[] answers = pair.answers(which);
+        calls++;
         due.is("run " + run + " call " + calls + " of sort " + which, answers[0], answers[1]);
     }
 
@@ -56,11 +57,11 @@ public final class ModelTest {
     }
 
     private int goer() {
-        return near(0, Math.max(0, x.count(0) - 1));
+        return near(0, Math.max(0, m.count(0) - 1));
     }
 
     private int flight() {
-        return near(0, Math.max(0, x.count(1) - 1));
+        return near(0, Math.max(0, m.count(1) - 1));
     }
 
     private long[] settle(int which) {
@@ -124,7 +125,7 @@ public final class ModelTest {
 
     /** Types a text that is mostly right, and reads it. */
     private void text() {
-        if (calls + 160 > CALLS) return;
+        if (calls + MOST_TEXT > CALLS) return;
         due.is("run " + run + " clear", x.clear(), m.clear());
         StringBuilder text = new StringBuilder(random.nextInt(20) == 0 ? "" : "tenement;");
         int items = random.nextInt(12);
