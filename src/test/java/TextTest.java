@@ -18,6 +18,7 @@ public final class TextTest {
         hoursAreAsTold();
         theTextEndsTooEarly();
         everyTextThatIsCutShort();
+        bytesOfAFormerText();
         aFaultLeavesAll();
         whatIsReadTakesThePlace();
         due.end();
@@ -315,6 +316,25 @@ public final class TextTest {
             int items = (int) rest.chars().filter(c -> c == ';').count();
             reads(rest, whole ? items : known ? -10 - cut : -10 - (cut - last.length()));
         }
+    }
+
+    /** What stood behind the end, before the text was cleared, does not count. */
+    private static void bytesOfAFormerText() {
+        due.says("`int clear()`: THE TEXT is empty: how many it had.");
+        String text = "tenement;flight 3 8;goer 4 2 0;load 0 7;stride 0 1;hours 31;";
+        char[] former = {' ', 't', 'z', '5', ';', '-'};
+        for (int cut = 0; cut <= text.length(); cut++) {
+            String rest = text.substring(0, cut);
+            int want = Due.read(new StairSteps(), rest);
+            for (char c : former) behindOthers(rest, String.valueOf(c).repeat(150), want);
+            behindOthers(rest, text, want);
+        }
+    }
+
+    private static void behindOthers(String text, String former, int want) {
+        StairSteps x = new StairSteps();
+        Due.write(x, former);
+        due.is("7 [" + text + "] behind [" + former + "]", Due.read(x, text), want);
     }
 
     private static void aFaultLeavesAll() {
