@@ -26,20 +26,30 @@ import java.util.LinkedHashSet;
 import java.util.List;
 import java.util.Map;
 import java.util.Set;
+import java.util.regex.Pattern;
 import javax.lang.model.element.Element;
 import javax.lang.model.element.ElementKind;
+import javax.lang.model.element.ExecutableElement;
 import javax.lang.model.element.Modifier;
 import javax.lang.model.element.VariableElement;
+import javax.lang.model.type.TypeKind;
+import javax.lang.model.type.TypeMirror;
 import javax.tools.JavaCompiler;
 import javax.tools.StandardJavaFileManager;
 import javax.tools.ToolProvider;
 
-/** The rules of LANGUAGE.md that need the compiler's own view of the file: who calls whom, what is made, what may throw. */
+/**
+ * The rules of LANGUAGE.md that need the compiler's own view of the file: who calls whom, what is made, what may throw.
+ * Where the class needs less than the rules leave it (no recursion, no object made by a call), it is held to that.
+ */
 public final class RulesTest {
     private static final int MOST_DEEP = 8, MOST_LINES = 60, MOST_FIELDS = 20;
-    private static final Set<String> LIBRARY = Set.of("java.util.Arrays.fill", "java.lang.System.arraycopy",
-        "java.lang.Math.min", "java.lang.Math.max", "java.lang.Integer.bitCount", "java.lang.String.length",
-        "java.lang.String.charAt");
+    private static final Pattern LIBRARY = Pattern.compile("java\\.lang\\.("
+        + "String\\.(length|charAt|isEmpty|equals|indexOf|substring|toCharArray)"
+        + "|StringBuilder\\.(append|charAt|setCharAt|setLength|deleteCharAt|reverse|length|toString)"
+        + "|System\\.arraycopy)|java\\.util\\.Arrays\\.(copyOf|copyOfRange|fill)"
+        + "|java\\.util\\.(ArrayList|List)\\.(add|get|set|remove|size|isEmpty|clear|of)");
+    private static final Set<String> OF_NUMBERS = Set.of("java.lang.Math", "java.lang.Integer", "java.lang.Long");
     /** The only methods that use an index; each looks at it in the same line. */
     private static final Set<String> INDEXED = Set.of("at", "put", "sum");
     private static final Due due = new Due("RulesTest");
@@ -131,9 +141,22 @@ public final class RulesTest {
                 if (method != null) calls.get(trees.getElement(pathOf(method))).add(callee);
             } else if (callee.getKind() != ElementKind.CONSTRUCTOR) {
                 String name = callee.getEnclosingElement() + "." + callee.getSimpleName();
-                due.holds("rule 4: " + name, LIBRARY.contains(name));
+                due.holds("rule 4: " + name, LIBRARY.matcher(name).matches() || isOfNumbers((ExecutableElement) callee));
             }
             return super.visitMethodInvocation(call, none);
+        }
+
+        /** A static function of Math, Integer or Long, over int and long alone, that does not throw. */
+        private boolean isOfNumbers(ExecutableElement callee) {
+            boolean numbers = isNumber(callee.getReturnType());
+            for (VariableElement parameter : callee.getParameters()) numbers &= isNumber(parameter.asType());
+            return numbers && callee.getModifiers().contains(Modifier.STATIC)
+                && OF_NUMBERS.contains(callee.getEnclosingElement().toString())
+                && !callee.getSimpleName().toString().endsWith("Exact");
+        }
+
+        private boolean isNumber(TypeMirror type) {
+            return type.getKind() == TypeKind.INT || type.getKind() == TypeKind.LONG;
         }
 
         private TreePath pathOf(Tree tree) {
